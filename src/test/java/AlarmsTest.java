@@ -7,6 +7,7 @@ public final class AlarmsTest {
         pressureEdges();
         pressureInARow();
         pressureByPhase();
+        conditionsLookAtConditionedValues();
         airAndLeakByPhase();
         fluidAfter600();
         fluidNotInARow();
@@ -96,6 +97,25 @@ public final class AlarmsTest {
         CHECKS.due("13: phase 5", x.conditions(), 0);
         CHECKS.due("12: stands in 5", x.alarms(), 1);
         CHECKS.due("8: acknowledged in 5", x.acknowledge(), 0);
+    }
+
+    private static void conditionsLookAtConditionedValues() {
+        int[][] rows = { // sensor, a plausible value with its alarm, the ticks it takes then, an implausible value
+            {0, -300, 1, 30, 501}, {1, 400, 2, 30, -201}, {4, 1, 4, 1, 2}, {5, 1, 8, 1, -1},
+        };
+        for (int[] row : rows) {
+            BloodCircuitChannels x = Checks.inPhase(3);
+            x.sense(row[0], row[1]);
+            x.tick(row[3]);
+            x.sense(row[0], row[4]);
+            x.tick(2);
+            CHECKS.due("13: the last plausible value of " + row[0] + " holds on", x.conditions(), row[2]);
+            x = Checks.inPhase(3);
+            x.sense(row[0], row[4]);
+            x.tick(40);
+            x.tick(40);
+            CHECKS.due("13: an implausible value of " + row[0] + " is SENSOR alone", x.conditions(), 32);
+        }
     }
 
     private static void airAndLeakByPhase() {

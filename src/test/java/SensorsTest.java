@@ -121,16 +121,19 @@ public final class SensorsTest {
     }
 
     private static void steadyLooksAtConditionedValues() {
-        BloodCircuitChannels x = new BloodCircuitChannels();
-        x.sense(2, 601);
-        x.tick(2);
-        CHECKS.due("20: implausible is not off", x.steady(), 2);
-        x.sense(2, 600);
-        x.tick(1);
-        CHECKS.due("20: off", x.steady(), 0);
-        x.sense(2, -1);
-        x.tick(2);
-        CHECKS.due("20: stays off", x.steady(), 0);
+        int[][] rows = {{2, 600, 601}, {3, 3000, 3001}}; // sensor, a plausible value that is off, an implausible one
+        for (int[] row : rows) {
+            BloodCircuitChannels x = new BloodCircuitChannels();
+            x.sense(row[0], row[2]);
+            x.tick(2);
+            CHECKS.due("20: implausible is not off", x.steady(), 2);
+            x.sense(row[0], row[1]);
+            x.tick(1);
+            CHECKS.due("20: off", x.steady(), 0);
+            x.sense(row[0], row[2]);
+            x.tick(2);
+            CHECKS.due("20: stays off", x.steady(), 0);
+        }
     }
 
     private static void steadyInAllPhases() {
