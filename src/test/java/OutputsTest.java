@@ -367,7 +367,7 @@ public final class OutputsTest {
         for (int phase = 0; phase <= 6; phase++) {
             for (int commands = 0; commands <= 15; commands++) {
                 BloodCircuitChannels x = Checks.inPhase(phase, 10, 10);
-                x.substitute(commands);
+                CHECKS.due("9: " + commands + " in phase " + phase, x.substitute(commands), true);
                 x.tick(1);
                 int want = phase == 3 ? commands : commands & 7;
                 CHECKS.due("14: " + commands + " in phase " + phase, x.outputs(), want);

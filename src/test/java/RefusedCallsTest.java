@@ -138,6 +138,8 @@ public final class RefusedCallsTest {
     /** Goes on with both, so that what no question shows comes to light. */
     private static void goOn(String what, BloodCircuitChannels got, BloodCircuitChannels want) {
         List<ToIntFunction<BloodCircuitChannels>> steps = new ArrayList<>();
+        // Two ticks before the key: a key that is refused here too must not hide what the first one did to a row.
+        steps.add(x -> x.tick(1));
         steps.add(x -> x.tick(1));
         steps.add(BloodCircuitChannels::next);
         steps.add(x -> x.tick(9));

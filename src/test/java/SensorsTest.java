@@ -15,6 +15,7 @@ public final class SensorsTest {
         rawValueStays();
         lookedAtByTheNextTick();
         anyIntIsSensed();
+        sensedInAllPhases();
         noSensorToSense();
         noSensorToAnswer();
         noSensorIsFaulty();
@@ -109,6 +110,18 @@ public final class SensorsTest {
             int[] values = {Integer.MIN_VALUE, least - 1, least, 0, greatest, greatest + 1, Integer.MAX_VALUE};
             for (int v : values) {
                 CHECKS.due("4: sense(" + k + ", " + v + ")", new BloodCircuitChannels().sense(k, v), true);
+            }
+        }
+    }
+
+    /** "Answers whether there is a sensor k.": in every phase */
+    private static void sensedInAllPhases() {
+        for (int phase = 0; phase <= 6; phase++) {
+            for (int k = 0; k < PLAUSIBLE.length; k++) {
+                BloodCircuitChannels x = Checks.inPhase(phase);
+                CHECKS.due("4: sense " + k + " in phase " + phase, x.sense(k, PLAUSIBLE[k][1]), true);
+                x.tick(1);
+                CHECKS.due("5: sensed " + k + " in phase " + phase, x.conditioned(k), PLAUSIBLE[k][1]);
             }
         }
     }
