@@ -165,7 +165,7 @@ public final class AlarmsTest {
         }
     }
 
-    /** "in each of the last 30 ticks ... (a count of ticks includes this one)" */
+    /** "in each of the last 30 ticks" and "(conditioned values; a count of ticks includes this one)" */
     private static void pressureFor30Ticks() {
         int[][] rows = {{0, -201, 1}, {0, 101, 1}, {1, 49, 2}, {1, 301, 2}};
         for (int[] row : rows) {

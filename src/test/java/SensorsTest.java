@@ -102,7 +102,7 @@ public final class SensorsTest {
         }
     }
 
-    /** "(any int; ...) Answers whether there is a sensor k." */
+    /** "The raw value of sensor k becomes v (any int; ..." and "Answers whether there is a sensor k." */
     private static void anyIntIsSensed() {
         for (int k = 0; k < PLAUSIBLE.length; k++) {
             int least = PLAUSIBLE[k][0];
